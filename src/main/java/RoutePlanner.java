@@ -299,7 +299,10 @@ public final class RoutePlanner {
 
     public int prepare() throws UnsupportedOperationException {
         startPrepare();
-        return hierarchy.makeByValues(graph.net);
+        for (int turn = 0; turn < graph.nodes; turn++) {
+            hierarchy.contract(hierarchy.cheapest());
+        }
+        return hierarchy.shortcuts;
     }
 
     public int order(int v) throws IndexOutOfBoundsException, IllegalArgumentException {
@@ -317,13 +320,22 @@ public final class RoutePlanner {
             throw new IllegalStateException("not all nodes are in the order");
         }
         startPrepare();
+        for (int i = 0; i < toldSize; i++) {
+            hierarchy.contract(toldRow[i]);
+        }
         toldSize = 0;
-        return hierarchy.makeInOrder(graph.net, toldRow);
+        return hierarchy.shortcuts;
     }
 
     public int remake() throws UnsupportedOperationException {
+        int ranksWere = hierarchy.placed;
         startPrepare();
-        return hierarchy.makeAgain(graph.net);
+        for (int i = 0; i < graph.nodes; i++) {
+            // Nodes without a rank came later than those with one, so they have the highest numbers;
+            // and each contraction writes into the row just what is read from it here.
+            hierarchy.contract(i < ranksWere ? hierarchy.row[i] : i);
+        }
+        return hierarchy.shortcuts;
     }
 
     public int ready() {
@@ -457,6 +469,7 @@ public final class RoutePlanner {
         }
         prepares++;
         route.forget();
+        hierarchy.begin(graph.net);
     }
 
     /** What was answered about the graph as it was no longer holds; the ranks stay for a remake. */
@@ -1043,6 +1056,7 @@ public final class RoutePlanner {
         final int[] row = new int[MOST_NODES];
         boolean made = false;
         int placed = 0;
+        int shortcuts = 0;
         int perShortcut = 4;
         int perEdge = 2;
         int perContracted = 1;
@@ -1051,36 +1065,8 @@ public final class RoutePlanner {
         private final int[] wantedFrom = new int[CELLS];
         private final int[] wantedTo = new int[CELLS];
         private int wanted = 0;
-        private int shortcuts = 0;
 
-        int makeByValues(Net arcs) {
-            begin(arcs);
-            for (int turn = 0; turn < net.nodes; turn++) {
-                int v = cheapest();
-                if (v != NONE) {
-                    contract(v);
-                }
-            }
-            return shortcuts;
-        }
-
-        int makeInOrder(Net arcs, int[] orderRow) {
-            begin(arcs);
-            for (int i = 0; i < net.nodes; i++) {
-                contract(orderRow[i]);
-            }
-            return shortcuts;
-        }
-
-        /** Nodes without a rank came behind the latest ranks were made, so they have the highest numbers. */
-        int makeAgain(Net arcs) {
-            for (int v = placed; v < arcs.nodes; v++) {
-                row[v] = v;
-            }
-            return makeInOrder(arcs, row);
-        }
-
-        private void begin(Net arcs) {
+        void begin(Net arcs) {
             net.copy(arcs);
             Arrays.fill(contractedBeside, 0);
             placed = 0;
@@ -1088,12 +1074,14 @@ public final class RoutePlanner {
             made = true;
         }
 
-        private int cheapest() {
+        /** The node of the least value. */
+        int cheapest() {
             int best = NONE;
             int least = 0;
             for (int v = 0; v < net.nodes; v++) {
                 if (net.left[v]) {
-                    int value = valueOf(v);
+                    askForShortcuts(v);
+                    int value = perShortcut * wanted - perEdge * edgesOf(v) + perContracted * contractedBeside[v];
                     if (best == NONE || value < least) {
                         best = v;
                         least = value;
@@ -1103,18 +1091,20 @@ public final class RoutePlanner {
             return best;
         }
 
-        private int valueOf(int v) {
-            askForShortcuts(v);
-            int edges = 0;
+        private int edgesOf(int v) {
+            int many = 0;
             for (int x = 0; x < net.nodes; x++) {
                 if (net.left[x]) {
-                    edges += (net.has(v, x) ? 1 : 0) + (net.has(x, v) ? 1 : 0);
+                    many += (net.has(v, x) ? 1 : 0) + (net.has(x, v) ? 1 : 0);
                 }
             }
-            return perShortcut * wanted - perEdge * edges + perContracted * contractedBeside[v];
+            return many;
         }
 
-        private void contract(int v) {
+        void contract(int v) {
+            if (v < 0 || v >= net.nodes || !net.left[v]) {
+                return;
+            }
             askForShortcuts(v);
             for (int k = 0; k < wanted; k++) {
                 net.putShortcut(wantedFrom[k], v, wantedTo[k]);
@@ -1126,13 +1116,12 @@ public final class RoutePlanner {
                     contractedBeside[x]++;
                 }
             }
-            if (placed < MOST_NODES) {
-                ranks[v] = placed;
-                row[placed] = v;
-                placed++;
-            }
+            ranks[v] = placed;
+            row[placed] = v;
+            placed++;
         }
 
+        /** Finds the pairs between which a shortcut over v is wanted; nothing of the net changes. */
         private void askForShortcuts(int v) {
             wanted = 0;
             net.left[v] = false;
@@ -1169,7 +1158,7 @@ public final class RoutePlanner {
             return x != u && net.left[x] && net.has(v, x);
         }
 
-        /** The edge from u to x is a witness itself, which spares a search. */
+        /** The edge from u to x is a witness itself: no search need go so far for it, and any will meet it. */
         private boolean isBridged(int u, int v, int x) {
             int cell = Net.cell(u, x);
             return net.counts[cell] > 0 && !isBetter(net.lengthVia(u, v, x), net.countVia(u, v, x),
