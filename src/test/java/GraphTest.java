@@ -146,6 +146,11 @@ public final class GraphTest {
         Check.due("the potentials are 0", 0, p.potential(2, 0));
         Check.due("the sum is 0", 0, p.arc(0, 1, BIG));
         Check.due("the sum is 2^61", 1, p.arc(0, 1, BIG - 1));
+        for (int v = 3; v >= 0; v--) {
+            p.order(v);
+        }
+        p.prepareTold();
+        Check.due("3 goes first", 3, p.ranked(0));
         p.clear();
         starOf(p);
         p.remake();

@@ -108,6 +108,40 @@ public final class HierarchyTest {
         dueRanks("9, 9, 9", p, "1 2 3 0");
     }
 
+    /** Some graph that a number makes, and the ranks of its nodes; no factors told where the row is empty. */
+    private static String ranksOf(int number, int... f) {
+        RoutePlanner p = withNodes(9);
+        int k = number;
+        for (int a = 0; a < 20; a++) {
+            k = (k * 1103515245 + 12345) & Integer.MAX_VALUE;
+            p.arc(k / 65536 % 9, k / 65536 / 9 % 9, k / 65536 % 7);
+        }
+        if (f.length > 0) {
+            p.factors(f[0], f[1], f[2]);
+        }
+        p.prepare();
+        StringBuilder row = new StringBuilder();
+        for (int i = 0; i < 9; i++) {
+            row.append(p.ranked(i));
+        }
+        return row.toString();
+    }
+
+    private static void factorsAtFirst() {
+        int[][] others = {{3, 2, 1}, {5, 2, 1}, {4, 1, 1}, {4, 3, 1}, {4, 2, 0}, {4, 2, 2}};
+        int[] unlike = new int[others.length];
+        for (int number = 0; number < 200; number++) {
+            String atFirst = ranksOf(number);
+            Check.due("ranks of graph " + number, ranksOf(number, 4, 2, 1), atFirst);
+            for (int k = 0; k < others.length; k++) {
+                unlike[k] += atFirst.equals(ranksOf(number, others[k])) ? 0 : 1;
+            }
+        }
+        for (int k = 0; k < others.length; k++) {
+            Check.due("other factors make other ranks, " + k, 1, unlike[k] > 0 ? 1 : 0);
+        }
+    }
+
     private static void contractedNeighboursWeigh() {
         RoutePlanner p = withNodes(4);
         p.arc(0, 2, 1);
@@ -301,6 +335,9 @@ public final class HierarchyTest {
         Check.due("query of one node", 6, p.query(1, 1));
         dueRelaxed("from 1 to 1", p, "1-0-1 1-2-1 0-2-1 0-1-0 2-1-0 2-0-0");
         dueWalk("from 1 to 1", p, "1 0 3 3 0", 0, "");
+        p.query(2, 0);
+        dueWalk("from 2 to 0", p, "2 2 1 2 1", 3, "3 1");
+        p.query(1, 1);
         Check.dueThrow("no node -1", IndexOutOfBoundsException.class, () -> p.query(0, -1));
         Check.due("the latest stays", 1, p.told(0));
         p.search(2);
@@ -360,8 +397,85 @@ public final class HierarchyTest {
         dueWalk("the least nodes down", p, "1 3 3 5 0", 3, "1 3 7");
     }
 
+    /** 24 nodes in a line: a shortcut over all that is between, then 23 edges up, then 23 down. */
+    private static void longWays() {
+        RoutePlanner p = withNodes(24);
+        StringBuilder all = new StringBuilder();
+        for (int v = 0; v < 23; v++) {
+            p.arc(v, v + 1, 1L << 57);
+            all.append(v).append(' ');
+        }
+        String steps = all.toString().trim();
+        for (int v = 1; v < 23; v++) {
+            p.order(v);
+        }
+        tellOrder(p, 0, 23);
+        Check.due("22 shortcuts", 22, p.prepareTold());
+        Check.due("one edge", 1, p.query(0, 23));
+        dueWalk("one shortcut", p, "23 23 2 1 1", 23L << 57, steps);
+        for (int v = 0; v < 24; v++) {
+            p.order(v);
+        }
+        Check.due("no shortcuts", 0, p.prepareTold());
+        Check.due("23 edges", 23, p.query(0, 23));
+        dueWalk("up", p, "23 23 24 1 0", 23L << 57, steps);
+        for (int v = 23; v >= 0; v--) {
+            p.order(v);
+        }
+        p.prepareTold();
+        Check.due("23 edges", 23, p.query(0, 23));
+        dueWalk("down", p, "0 23 1 24 0", 23L << 57, steps);
+        for (int v = 0; v < 12; v++) {
+            tellOrder(p, v, 23 - v);
+        }
+        p.prepareTold();
+        p.query(0, 23);
+        dueWalk("up and down", p, "12 23 13 12 0", 23L << 57, steps);
+        p.query(23, 0);
+        dueWalk("no way back", p, "-1 -1 1 1 -1", -1, "");
+    }
+
+    /** Every node has an arc to every one of 13 others. */
+    private static void manyEdges() {
+        RoutePlanner p = withNodes(24);
+        for (int v = 0; v < 24; v++) {
+            for (int k = 1; k <= 12; k++) {
+                p.arc(v, (v + k) % 24, 1);
+            }
+        }
+        p.prepare();
+        for (int s = 0; s < 24; s++) {
+            for (int t = 0; t < 24; t++) {
+                p.query(s, t);
+                Check.due("length from " + s + " to " + t, p.distance(s, t), p.found());
+                Check.due("arcs from " + s + " to " + t, p.arcs(s, t), p.told(1));
+            }
+        }
+    }
+
+    /** Roads from 0 to all others, and 0 contracted first: then each node has edges with each. */
+    private static void allEdges() {
+        RoutePlanner p = withNodes(24);
+        for (int v = 1; v < 24; v++) {
+            p.arc(0, v, 1);
+            p.arc(v, 0, 1);
+        }
+        Check.due("shortcuts", 23 * 22, p.remake());
+        Check.due("edges", 24 * 23, p.total(6));
+        Check.due("shortcuts that are edges", 23 * 22, p.total(7));
+        Check.due("all relaxed", 24 * 23, p.query(0, 0));
+        Check.due("the last UP edge", 23, p.relaxed(275, 1));
+        Check.due("is one", 1, p.relaxed(275, 2));
+        Check.due("the last DOWN edge", 23, p.relaxed(551, 0));
+        Check.due("is one", 0, p.relaxed(551, 2));
+        Check.due("no edge more", -1, p.relaxed(552, 0));
+        p.query(23, 22);
+        dueWalk("over 0", p, "23 2 1 2 1", 2, "45 42");
+    }
+
     public static void main(String[] args) {
         factorsAndValues();
+        factorsAtFirst();
         contractedNeighboursWeigh();
         valuesChangeByTurns();
         toldOrder();
@@ -374,6 +488,9 @@ public final class HierarchyTest {
         queries();
         queriesWithoutWay();
         queriesOfLikeWays();
+        longWays();
+        manyEdges();
+        allEdges();
         Check.finish("HierarchyTest");
     }
 }

@@ -16,8 +16,9 @@ public final class RandomRunsTest {
     private RandomRunsTest(int seed) {
         chance = new Random(seed);
         name = "run " + seed;
-        nodesWanted = chance.nextInt(4) == 0 ? chance.nextInt(26) : chance.nextInt(9);
-        arcsWanted = chance.nextInt(30) == 0 ? 290 + chance.nextInt(20) : chance.nextInt(nodesWanted * 4 + 2);
+        int size = chance.nextInt(24);
+        nodesWanted = size == 0 ? 30 : size < 6 ? chance.nextInt(24) : chance.nextInt(9);
+        arcsWanted = chance.nextInt(size == 0 ? 2 : 40) == 0 ? 330 : chance.nextInt(nodesWanted * 4 + 2);
         weightKind = chance.nextInt(6);
     }
 

@@ -113,6 +113,9 @@ public final class SearchTest {
         p.weigh(0, 0);
         Check.due("both over a weight 0", 4, p.both(0, 2));
         dueTrail("both over a weight 0", p, "0 1 2 2", "0 0 1 0", "0 1 2 0");
+        p.weigh(1, 0);
+        Check.due("of like lengths ahead goes first", 3, p.both(1, 1));
+        dueTrail("of like lengths ahead goes first", p, "1 2 1", "0 0 0", "0 1 0");
         Check.due("no way", 2, p.both(2, 4));
         dueTrail("no way", p, "2 4", "0 0", "0 0");
         Check.dueThrow("both from 5", IndexOutOfBoundsException.class, () -> p.both(5, 0));
@@ -259,6 +262,18 @@ public final class SearchTest {
         Check.due("nothing happened to 2", 0, p.potential(2, 0));
         Check.due("7000000 and 2000000 are left", 0, p.straight(0, 5));
         Check.due("4000028 more", 1, p.straight(0, 4));
+        Check.due("all of it", 1, p.straight(0, 0));
+        p.weigh(2, BIG);
+        p.weigh(3, BIG - 14000000 - 2000007);
+        Check.due("the sum would be 2^62 just so", 0, p.straight(0, 1));
+        p.weigh(3, BIG - 14000000 - 2000008);
+        Check.due("one less", 1, p.straight(0, 1));
+        Check.due("from 1 there are 5 more", 0, p.straight(1, 1));
+        p.weigh(3, 0);
+        Check.due("straight to another place", 1, p.straight(1, 1));
+        Check.due("from 0 to 1", 7, p.potential(0, 0));
+        Check.due("from 1 to 1", 0, p.potential(1, 0));
+        Check.due("from 2 to 1", 2000007, p.potential(2, 0));
     }
 
     private static void reachedNodes() {

@@ -68,6 +68,19 @@ public final class TextTest {
         fault(0, -1, "node 1 2\nroad 0 0 2305843009213693951\narc 0 0 1");
     }
 
+    private static void fullTapes() {
+        fault(0, -1, "\n".repeat(2000));
+        fault(1, 1999, "\n".repeat(1999) + "\t");
+        fault(2, 1999, "\n".repeat(1999) + "x");
+        fault(0, -1, " ".repeat(2000));
+        fault(0, -1, "#".repeat(2000));
+        fault(1, 1999, "#".repeat(1999) + "\t");
+        fault(2, 0, "x".repeat(2000));
+        fault(0, -1, "node " + "0".repeat(1993) + " 2");
+        fault(3, 7, "node 1 " + "9".repeat(1993));
+        fault(2, 2000, "node 1" + " ".repeat(1994));
+    }
+
     private static void bytesThatCannotBe() {
         fault(1, 4, "node\t1 2");
         fault(1, 1, "#\t");
@@ -93,6 +106,8 @@ public final class TextTest {
         fault(2, 19, "node 1 2\narc 0 0 1 x");
         fault(2, 16, "node 1 2\narc 0 0\n");
         fault(2, 0, "1 node 2");
+        fault(2, 0, "!");
+        fault(2, 1, " ~#");
     }
 
     private static void numbersThatAreNone() {
@@ -206,6 +221,7 @@ public final class TextTest {
         feedStopsAtTwoThousand();
         endCuts();
         textsWithoutFault();
+        fullTapes();
         bytesThatCannotBe();
         wordsThatCannotStand();
         numbersThatAreNone();
