@@ -536,6 +536,12 @@ public final class RoutePlanner {
         private static final int BLANK = 32;
         private static final int LAST_BYTE = 126;
         private static final long NOT_A_NUMBER = Long.MIN_VALUE;
+        private static final int NO_FAULT = 0;
+        private static final int BAD_BYTE = 1;
+        private static final int BAD_WORD = 2;
+        private static final int BAD_NUMBER = 3;
+        private static final int NO_SUCH_NODE = 4;
+        private static final int TOO_MANY = 5;
 
         private final Tape tape;
         private final Graph graph;
@@ -555,12 +561,12 @@ public final class RoutePlanner {
 
         int readTape() {
             at = 0;
-            fault = 0;
+            fault = NO_FAULT;
             faultPlace = NONE;
             nodes = graph.nodes;
             arcs = graph.arcs;
             sum = graph.sum;
-            for (int line = 0; line < MOST_BYTES && at < tape.size && fault == 0; line++) {
+            for (int line = 0; line < MOST_BYTES && at < tape.size && fault == NO_FAULT; line++) {
                 readLine();
             }
             tape.size = 0;
@@ -576,10 +582,10 @@ public final class RoutePlanner {
                 } else if (isWord("road")) {
                     readArcs(true);
                 } else {
-                    fail(2, wordAt);
+                    fail(BAD_WORD, wordAt);
                 }
                 if (nextWord()) {
-                    fail(2, wordAt);
+                    fail(BAD_WORD, wordAt);
                 }
             }
             at++;
@@ -587,12 +593,12 @@ public final class RoutePlanner {
 
         private void readNode() {
             if (nodes >= MOST_NODES) {
-                fail(5, wordAt);
+                fail(TOO_MANY, wordAt);
                 return;
             }
             long x = nextNumber(true, MOST_PLACE);
             long y = nextNumber(true, MOST_PLACE);
-            if (fault == 0) {
+            if (fault == NO_FAULT) {
                 graph.putNode(nodes, (int) x, (int) y);
                 nodes++;
             }
@@ -601,16 +607,16 @@ public final class RoutePlanner {
         private void readArcs(boolean bothWays) {
             int more = bothWays ? 2 : 1;
             if (arcs + more > MOST_ARCS) {
-                fail(5, wordAt);
+                fail(TOO_MANY, wordAt);
                 return;
             }
             int from = nextNode();
             int to = nextNode();
             long weight = nextNumber(false, MOST_WEIGHT);
-            if (fault == 0 && weight * more >= SUM_LIMIT - sum) {
-                fail(3, wordAt);
+            if (fault == NO_FAULT && weight * more >= SUM_LIMIT - sum) {
+                fail(BAD_NUMBER, wordAt);
             }
-            if (fault == 0) {
+            if (fault == NO_FAULT) {
                 putArc(from, to, weight);
                 if (bothWays) {
                     putArc(to, from, weight);
@@ -626,20 +632,20 @@ public final class RoutePlanner {
 
         private int nextNode() {
             long number = nextNumber(false, Long.MAX_VALUE);
-            if (fault == 0 && number >= nodes) {
-                fail(4, wordAt);
+            if (fault == NO_FAULT && number >= nodes) {
+                fail(NO_SUCH_NODE, wordAt);
             }
-            return fault == 0 ? (int) number : NONE;
+            return fault == NO_FAULT ? (int) number : NONE;
         }
 
         private long nextNumber(boolean signed, long most) {
             if (!nextWord()) {
-                fail(2, at);
+                fail(BAD_WORD, at);
                 return 0;
             }
             long number = numberOfWord(signed);
             if (number == NOT_A_NUMBER || number > most || number < -most) {
-                fail(3, wordAt);
+                fail(BAD_NUMBER, wordAt);
             }
             return number;
         }
@@ -664,7 +670,7 @@ public final class RoutePlanner {
 
         /** Whether the line has one more word, which is from wordAt to at then; else at is the line's end. */
         private boolean nextWord() {
-            if (fault != 0) {
+            if (fault != NO_FAULT) {
                 return false;
             }
             skip(BLANK, BLANK);
@@ -677,9 +683,9 @@ public final class RoutePlanner {
             wordAt = at;
             skip(BLANK + 1, LAST_BYTE);
             if (at == wordAt) {
-                fail(1, at);
+                fail(BAD_BYTE, at);
             }
-            return fault == 0;
+            return fault == NO_FAULT;
         }
 
         private void skip(int least, int most) {
@@ -705,7 +711,7 @@ public final class RoutePlanner {
 
         /** Faults are met in the order of the text, so the first one stands. */
         private void fail(int number, int where) {
-            if (fault == 0) {
+            if (fault == NO_FAULT) {
                 fault = number;
                 faultPlace = where;
             }
