@@ -2,8 +2,11 @@ import java.util.Random;
 
 /** Runs of calls by chance (the same ones each time) on the class and on the model, whose answers must be alike. */
 public final class RandomRunsTest {
-    private static final int RUNS = 1500;
+    private static final int RUNS = 8000;
     private static final int ROUNDS = 62;
+
+    /** What later calls answer is free. */
+    private static final int MOST_CALLS = 512;
 
     private final Random chance;
     private final RoutePlanner p = new RoutePlanner();
@@ -12,6 +15,7 @@ public final class RandomRunsTest {
     private final int nodesWanted;
     private final int arcsWanted;
     private final int weightKind;
+    private int calls = 0;
 
     private RandomRunsTest(int seed) {
         chance = new Random(seed);
@@ -23,6 +27,10 @@ public final class RandomRunsTest {
     }
 
     private void same(String call, Check.Call model, Check.Call planner) {
+        calls++;
+        if (calls > MOST_CALLS) {
+            return;
+        }
         String want = Check.outcome(model);
         Check.due(name + ": " + call, want, Check.outcome(planner));
     }
@@ -313,14 +321,42 @@ public final class RandomRunsTest {
         }
     }
 
-    private void run() {
+    /** Many nodes and arcs come by texts, which take fewer calls. */
+    private void tellGraph() {
+        boolean many = arcsWanted > 60;
+        StringBuilder text = new StringBuilder();
         for (int v = 0; v < nodesWanted; v++) {
-            tellNode();
+            if (many && v < 24) {
+                text.append("node ").append(chance.nextInt(9)).append(' ').append(chance.nextInt(9)).append('\n');
+            } else {
+                tellNode();
+            }
         }
+        readAll(text);
         for (int a = 0; a < arcsWanted; a++) {
-            tellArc();
+            if (many && a < 296 && nodesWanted > 0) {
+                int nodes = Math.min(nodesWanted, 24);
+                text.append("arc ").append(chance.nextInt(nodes)).append(' ').append(chance.nextInt(nodes))
+                        .append(' ').append(chance.nextInt(9)).append('\n');
+                if (text.length() > 1900) {
+                    readAll(text);
+                }
+            } else {
+                tellArc();
+            }
         }
-        for (int k = 0; k < ROUNDS; k++) {
+        readAll(text);
+    }
+
+    private void readAll(StringBuilder text) {
+        feedBytes(text.toString());
+        same("read()", m::read, p::read);
+        text.setLength(0);
+    }
+
+    private void run() {
+        tellGraph();
+        for (int k = 0; k < ROUNDS && calls < MOST_CALLS; k++) {
             callOnce();
         }
     }
