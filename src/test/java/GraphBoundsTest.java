@@ -363,6 +363,7 @@ public final class GraphBoundsTest {
         }
         Check.due("11 clear: weights come", 0, p.weigh(0, Scene.MOST_WEIGHT));
         Check.due("11 clear: and more", 0, p.weigh(1, Scene.MOST_WEIGHT - 1));
+        Check.dueThrow("11 clear: and no more", ArithmeticException.class, () -> p.weigh(2, 1));
         Check.due("11 clear: the order is empty", 1, p.order(2));
     }
 

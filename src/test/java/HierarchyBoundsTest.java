@@ -342,8 +342,9 @@ public final class HierarchyBoundsTest {
         long half = Scene.MOST_WEIGHT / 2 - 1;
         String over = "node 0 0\nnode 0 0\nnode 0 0\nnode 0 0\narc 0 1 " + half + "\narc 1 2 " + half + "\n";
         String[] witness = {"", "arc 0 2 " + 2 * half, "arc 0 3 " + half + "\narc 3 2 " + (half - 1),
-            "arc 0 3 " + (half - 1) + "\narc 3 2 " + half, "arc 0 3 0\narc 3 2 " + (2 * half - 1)};
-        int[] shortcuts = {1, 0, 0, 0, 0};
+            "arc 0 3 " + (half - 1) + "\narc 3 2 " + half, "arc 0 3 0\narc 3 2 " + 2 * half,
+            "arc 0 3 " + 2 * half + "\narc 3 2 0", "arc 0 3 " + 2 * half + "\narc 3 2 1"};
+        int[] shortcuts = {1, 0, 0, 0, 0, 0, 1};
         for (int k = 0; k < witness.length; k++) {
             RoutePlanner p = new RoutePlanner();
             Check.due("4 read", 0, Check.readText(p, over + witness[k]));
@@ -357,6 +358,35 @@ public final class HierarchyBoundsTest {
         p.weigh(3, 3);
         tellOrder(p, 1, 0, 2, 3);
         Check.due("29 prepareTold: just as long, of like count", 0, p.prepareTold());
+    }
+
+    /** The shortcut from 0 to 2 would be part of a witness from 0 to 3, but it is not there yet. */
+    private static void allIsAskedAheadOfShortcuts() {
+        RoutePlanner p = withNodes(4);
+        Check.readText(p, "arc 0 1 1\narc 1 2 1\narc 2 3 1\narc 1 3 3\n");
+        tellOrder(p, 1, 0, 2, 3);
+        Check.due("29 prepareTold: both shortcuts", 2, p.prepareTold());
+        Check.due("34 edgeLength to 2", 2, p.edgeLength(0, false, 0));
+        Check.due("34 edgeLength to 3", 4, p.edgeLength(0, false, 1));
+        Check.due("35 query(0, 3)", 3, p.query(0, 3));
+        Check.due("37 found", 3, p.found());
+        Check.due("36 told(4)", 1, p.told(4));
+    }
+
+    /** The arc from 0 to 2 gives way to a shortcut if that is shorter by 1, and stays if it is just as long. */
+    private static void shortcutsInPlaceOfArcs() {
+        for (long w = 4; w <= 6; w++) {
+            RoutePlanner p = withNodes(3);
+            Check.readText(p, "arc 0 1 2\narc 1 2 3\narc 0 2 " + w + "\n");
+            tellOrder(p, 1, 0, 2);
+            boolean shorter = w == 6;
+            Check.due("29 prepareTold: an arc of " + w, shorter ? 1 : 0, p.prepareTold());
+            Check.due("33 edge: over", shorter ? 1 : -1, p.edge(0, false, 0, 2));
+            Check.due("33 edge: arc", shorter ? -1 : 2, p.edge(0, false, 0, 3));
+            Check.due("33 edge: count", shorter ? 2 : 1, p.edge(0, false, 0, 1));
+            Check.due("34 edgeLength", Math.min(w, 5), p.edgeLength(0, false, 0));
+            Check.due("33 edge: there is one", -1, p.edge(0, false, 1, 0));
+        }
     }
 
     // ---- 35 query to 39 relaxed
@@ -568,6 +598,8 @@ public final class HierarchyBoundsTest {
         edgesOfOneNode();
         edgesOfSeveralArcs();
         witnessesAtTheLimit();
+        allIsAskedAheadOfShortcuts();
+        shortcutsInPlaceOfArcs();
         queriesRefused();
         noQueryYet();
         queriesAreForgotten();

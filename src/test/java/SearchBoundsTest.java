@@ -71,6 +71,40 @@ public final class SearchBoundsTest {
         }
     }
 
+    /** From a node to itself, with others beside it. */
+    private static void searchesThatEndAtOnce() {
+        RoutePlanner p = withNodes(3);
+        Check.readText(p, "road 0 1 1\nroad 1 2 1\n");
+        p.landmark(0);
+        Check.due("13 goal from 1 to 1", 1, p.goal(1, 1));
+        Check.due("13 goal", "1:0:0", rows(p));
+        Check.due("14 both from 1 to 1", 2, p.both(1, 1));
+        Check.due("14 both", "1:0:0 1:0:0", rows(p));
+        Check.due("15 landmarked from 1 to 1", 1, p.landmarked(1, 1));
+        Check.due("15 landmarked", "1:0:0", rows(p));
+    }
+
+    /** Potentials that were told, tried or looked at are nothing to the searches that do not go by them. */
+    private static void searchesByThemselves() {
+        RoutePlanner p = new RoutePlanner();
+        Check.readText(p, "node 0 0\nnode 5 0\nnode 9 0\narc 0 1 6\narc 0 2 9\narc 1 2 4\n");
+        p.landmark(2);
+        Check.due("23 straight", 1, p.straight(2, 1));
+        Check.due("12 search after straight()", 3, p.search(0));
+        Check.due("12 search", "0:0:0 1:6:1 2:9:1", rows(p));
+        Check.due("13 goal by straight()", 2, p.goal(0, 2));
+        Check.due("23 straight: too much", 0, p.straight(2, 1000000));
+        Check.due("12 search after what straight() tried", 3, p.search(0));
+        Check.due("12 search", "0:0:0 1:6:1 2:9:1", rows(p));
+        Check.due("13 goal after it", 2, p.goal(0, 2));
+        Check.due("15 landmarked to 1", 2, p.landmarked(0, 1));
+        Check.due("25 bound towards 1", 5, p.bound(0, 1));
+        Check.due("15 landmarked to 2", 2, p.landmarked(0, 2));
+        Check.due("15 landmarked", "0:0:0 2:9:1", rows(p));
+        Check.due("25 bound towards 0", NOWHERE, p.bound(2, 0));
+        Check.due("15 landmarked to 2 again", 2, p.landmarked(0, 2));
+    }
+
     private static void searchesThatReachNothing() {
         RoutePlanner p = withNodes(3);
         p.arc(1, 0, 1);
@@ -432,6 +466,24 @@ public final class SearchBoundsTest {
         Check.due("23 straight: its potential", 0, one.potential(0, 0));
     }
 
+    /** All 24 nodes on a line, each farther by 1. */
+    private static void straightOfAllNodes() {
+        RoutePlanner p = new RoutePlanner();
+        for (int v = 0; v < 24; v++) {
+            p.node(v, 0);
+        }
+        p.arc(0, 0, Scene.MOST_WEIGHT);
+        p.arc(0, 0, Scene.MOST_WEIGHT - 1 - 23 * 12);
+        Check.due("23 straight of 24", 1, p.straight(23, 1));
+        for (int v = 0; v < 24; v++) {
+            Check.due("23 straight: potential of " + v, 23 - v, p.potential(v, 23 - v));
+        }
+        Check.dueThrow("21 potential: 1 more", ArithmeticException.class, () -> p.potential(23, 1));
+        Check.due("23 straight by 2", 0, p.straight(23, 2));
+        Check.due("23 straight towards the middle", 1, p.straight(12, 1));
+        Check.due("23 straight: potential of 23", 11, p.potential(23, 0));
+    }
+
     /** What the potentials were is not counted, what they become is. */
     private static void straightUpToTheSum() {
         for (long left = 22; left <= 24; left++) {
@@ -523,6 +575,16 @@ public final class SearchBoundsTest {
         Check.due("25 bound of what neither tells", 0, p.bound(0, 4));
     }
 
+    /** From 2 to the landmark in 1, from 1 in 6; from the landmark to 1 in 1, to 2 in 6: all that is known is below 0. */
+    private static void boundsAreNotBelowNothing() {
+        RoutePlanner p = withNodes(3);
+        Check.readText(p, "arc 0 1 1\narc 1 2 5\narc 2 0 1\n");
+        p.landmark(0);
+        Check.due("25 bound(2, 1)", 0, p.bound(2, 1));
+        Check.due("25 bound(1, 2)", 5, p.bound(1, 2));
+        Check.due("25 bound(0, 0)", 0, p.bound(0, 0));
+    }
+
     /** Lengths up to 2^62 - 1 and a potential of 2^62 go together without a wrap-around. */
     private static void landmarkedByTheGreatest() {
         RoutePlanner p = withNodes(4);
@@ -542,6 +604,8 @@ public final class SearchBoundsTest {
         searchesOfNoNode();
         searchesRefused();
         searchesOfOneNode();
+        searchesThatEndAtOnce();
+        searchesByThemselves();
         searchesThatReachNothing();
         searchesAlongAllNodes();
         bothAlongAllNodes();
@@ -560,11 +624,13 @@ public final class SearchBoundsTest {
         straightNotConsistent();
         straightAcrossThePlane();
         straightToTheSamePlace();
+        straightOfAllNodes();
         straightUpToTheSum();
         landmarksRefused();
         landmarksUpToTheLimit();
         boundsOfNothing();
         boundsThatProveNothingLeads();
+        boundsAreNotBelowNothing();
         landmarkedByTheGreatest();
         Check.finish("SearchBoundsTest");
     }
