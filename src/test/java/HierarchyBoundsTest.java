@@ -109,6 +109,32 @@ public final class HierarchyBoundsTest {
         Check.due("31 ready", 0, p.ready());
     }
 
+    /** The 24th of each kind is made, the 25th is not, whatever kinds went ahead. */
+    private static void theLastPrepareOfEachKind() {
+        Twins.CallOn[] kinds = {RoutePlanner::prepare, RoutePlanner::remake, p -> {
+            tellOrder(p, 1, 2, 0);
+            return p.prepareTold();
+        }};
+        String[] due = {"0 2 1", "0 2 1", "1 2 0"};
+        for (int k = 0; k < kinds.length; k++) {
+            RoutePlanner p = path();
+            for (int made = 0; made < 22; made++) {
+                p.prepare();
+            }
+            for (int made = 23; made <= 24; made++) {
+                p.weigh(0, made);
+                kinds[k].on(p);
+                Check.due("41 total(3), kind " + k, made, p.total(3));
+                Check.due("31 ready, kind " + k, 1, p.ready());
+                Check.due("32 ranked, kind " + k, due[k], ranks(p));
+            }
+            int kind = k;
+            Check.dueThrow("the 25th, kind " + k, UnsupportedOperationException.class, () -> kinds[kind].on(p));
+            Check.due("41 total(3) stays, kind " + k, 24, p.total(3));
+            Check.due("32 ranked stays, kind " + k, due[k], ranks(p));
+        }
+    }
+
     private static void preparesBeyondTheLimit() {
         Twins.refused("27 prepare", UnsupportedOperationException.class, Scene::fullOfPrepares, RoutePlanner::prepare);
         Twins.refused("30 remake", UnsupportedOperationException.class, Scene::fullOfPrepares, RoutePlanner::remake);
@@ -585,6 +611,7 @@ public final class HierarchyBoundsTest {
         factorsAtTheirLimits();
         prepareNothing();
         preparesUpToTheLimit();
+        theLastPrepareOfEachKind();
         preparesBeyondTheLimit();
         ordersRefused();
         ordersUpToAllNodes();
